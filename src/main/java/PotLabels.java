@@ -790,6 +790,7 @@ public final class PotLabels {
         /** Sets of pots no two of which are told apart. */
         private final boolean[] peaceful = new boolean[SETS_OF_POTS];
         private final int[] needs = new int[SETS_OF_POTS];
+        /** For each label the pots that bear it while labels are tried; none before and behind that. */
         private final int[] bearers = new int[POTS];
 
         /** Notes for each pot those that the painter tells apart from it. */
@@ -832,9 +833,6 @@ public final class PotLabels {
         }
 
         int fewestByTrying() {
-            for (int label = 0; label < POTS; label++) {
-                bearers[label] = 0;
-            }
             return fewestFrom(0, 0, POTS);
         }
 

@@ -140,15 +140,16 @@ public final class LabelsAndChartsTest {
         x.mix(0, 2, 4);
         x.mix(1, 0, 9);
         x.hang(0, 7);
-        x.hang(1, 7);
-        x.hang(6, 7);
+        x.hang(1, 5);
+        x.hang(6, 4);
         Check.undoable(x, "takeDown(2)", () -> x.takeDown(2));
         x.undo();
         Check.equal("blue is read by the painters 0 and 1", 2, x.takeDown(0));
         Check.equal("charts", 2, x.count(2));
         Check.equal("figure behind it", 1, x.chartOf(0, 0));
-        Check.equal("ground behind it", 7, x.chartOf(0, 1));
+        Check.equal("ground behind it", 5, x.chartOf(0, 1));
         Check.equal("figure of the last", 6, x.chartOf(1, 0));
+        Check.equal("ground of the last", 4, x.chartOf(1, 1));
         Check.noPot(x, "chartOf(2, 0)", () -> x.chartOf(2, 0));
         Check.equal("no one reads black on black", 0, x.takeDown(1));
         Check.equal("all four read red", 4, x.takeDown(0));
@@ -159,6 +160,7 @@ public final class LabelsAndChartsTest {
         Check.equal("three again", 3, x.count(2));
         Check.equal("the first one again", 0, x.chartOf(0, 0));
         Check.equal("the last one again", 6, x.chartOf(2, 0));
+        Check.equal("its ground again", 4, x.chartOf(2, 1));
     }
 
     private static void takeDownRefuses() {
@@ -206,6 +208,8 @@ public final class LabelsAndChartsTest {
         Check.equal("one of each", 3999, corrected("888", "333", 0, 17));
         Check.equal("the farthest", 15000, corrected("555", "555", 0, 14));
         Check.equal("to the other side", 9999, corrected("990", "000", 0, 26));
+        Check.equal("as far as can be", 27999, corrected("000", "000", 0, 26));
+        Check.equal("no red is more than 9", 900 - 1000, corrected("900", "099", 0, 27));
         Check.equal("sharpness 0", 1454, corrected("554", "554", 0, 0));
     }
 

@@ -38,6 +38,8 @@ public final class LooksTest {
         Check.equal("not by the painter 0, less sharp", 6, x.potOf(0, 4));
         x.mix(0, 2, 0);
         Check.equal("all black", 0, x.potOf(0, 4));
+        x.mix(7, 0, 9);
+        Check.equal("but for the last one", 15, x.potOf(0, 4));
     }
 
     private static void potOfRefuses() {

@@ -16,6 +16,7 @@ public final class TextsAndSnapshotsTest {
         goBackIsUndoable();
         goBackRefuses();
         whatSnapshotsHold();
+        whatSavedStatesHold();
         undoSixStates();
         undoLeavesBufferAndSlots();
         undoOfMixedCalls();
@@ -204,50 +205,76 @@ public final class TextsAndSnapshotsTest {
         Check.equal("goBack(0) of a slot that is filled", 0, x.goBack(0));
     }
 
-    /** Every part of the state: a snapshot, and so a saved state, holds it. */
+    /** Every part of the state is unlike that of a new object. */
+    private static void fill(PotLabels x) {
+        Check.pots(x, "0=123;7=456");
+        for (int pot = 0; pot < 8; pot++) {
+            x.label(pot, 7 - pot);
+        }
+        for (int painter = 0; painter < 4; painter++) {
+            x.painter(painter, 0, 3 - painter);
+            x.painter(painter, 1, 10 + painter);
+            x.borrow(painter, 3 - painter);
+        }
+        for (int chart = 0; chart < 6; chart++) {
+            x.hang(chart, chart + 2);
+        }
+        x.hang(0, 1);
+        x.correct(0, 3);
+    }
+
+    private static void spoil(PotLabels x) {
+        for (int i = 0; i < 8; i++) {
+            x.mix(i, i % 3, 9);
+            x.labelAll(i % 4);
+            x.takeDown(0);
+            x.hang(7, 0);
+            x.hang(6, 0);
+            x.correct(0, 0);
+            x.painter(i % 4, 0, 0);
+            x.painter(i % 4, 1, 2);
+            x.borrow(i % 4, i % 4);
+        }
+    }
+
     private static void whatSnapshotsHold() {
         PotLabels x = new PotLabels();
-        x.hang(0, 1);
-        x.hang(2, 3);
-        x.correct(0, 0);
-        x.label(6, 6);
-        x.borrow(1, 3);
-        x.painter(2, 1, 27);
-        Check.equal("refused", -1, x.correct(1, 2));
+        fill(x);
+        Check.equal("refused", 1, x.count(6));
+        Check.equal("corrected", 1, x.count(5));
         x.keep(0);
-        Check.type(x, "12");
         long before = x.digest();
-        x.keep(1);
-        x.mix(0, 1, 9);
-        x.takeDown(0);
-        x.takeDown(0);
-        x.hang(4, 5);
-        x.correct(0, 0);
-        x.painter(2, 0, 1);
-        x.painter(2, 1, 26);
-        x.borrow(1, 1);
-        x.labelAll(0);
-        x.clearBuffer();
+        spoil(x);
+        Check.isTrue("all is spoilt", before != x.digest());
         x.goBack(0);
-        Check.type(x, "12");
+        Check.equal("goBack brings all back", before, x.digest());
+        spoil(x);
+        x.goBack(0);
+        Check.equal("and again", before, x.digest());
+        x.mix(0, 0, 0);
         x.keep(1);
-        Check.equal("corrections come back", 1, x.count(5));
-        Check.equal("what was refused comes back", 1, x.count(6));
-        Check.equal("charts come back", 2, x.count(2));
-        Check.equal("saved states do not", 6, x.count(7));
-        PotLabels y = new PotLabels();
-        y.hang(0, 1);
-        y.hang(2, 3);
-        y.correct(0, 0);
-        y.label(6, 6);
-        y.borrow(1, 3);
-        y.painter(2, 1, 27);
-        y.correct(1, 2);
-        Check.type(y, "12");
-        y.keep(0);
-        y.keep(1);
-        Check.equal("all of it", y.digest(), x.digest());
-        Check.isTrue("the slot is told in the digest", before != x.digest());
+        long both = x.digest();
+        spoil(x);
+        x.goBack(1);
+        Check.equal("so does the other slot", both, x.digest());
+        x.goBack(0);
+        x.mix(0, 0, 0);
+        Check.equal("and the first one", both, x.digest());
+    }
+
+    private static void whatSavedStatesHold() {
+        PotLabels x = new PotLabels();
+        x.keep(0);
+        fill(x);
+        x.keep(1);
+        Check.type(x, "0=999");
+        long before = x.digest();
+        x.goBack(0);
+        x.undo();
+        x.mix(0, 0, x.potOf(0, 0));
+        Check.equal("undo brings all back", before, x.digest());
+        x.goBack(1);
+        Check.equal("as it was kept", before, x.digest());
     }
 
     private static void undoSixStates() {
