@@ -120,7 +120,7 @@ public final class PotLabels {
 
     public int clearBuffer() {
         int before = text.length;
-        text.length = 0;
+        text.clear();
         return before;
     }
 
@@ -134,7 +134,7 @@ public final class PotLabels {
         }
         memory.save(bureau);
         text.giveColours(bureau);
-        text.length = 0;
+        text.clear();
         return bureau.pairsTold(0, bureau.lenders[0]);
     }
 
@@ -746,6 +746,10 @@ public final class PotLabels {
             }
         }
 
+        void clear() {
+            length = 0;
+        }
+
         int firstWrong() {
             for (int place = 0; place < length && place < BUFFER_CODES; place++) {
                 if (!fits(place % PLACES_OF_POT, codes[place])) {
@@ -833,14 +837,14 @@ public final class PotLabels {
         }
 
         int fewestByTrying() {
-            return fewestFrom(0, 0, POTS);
+            return fewestFrom(rivals, bearers, 0, 0, POTS);
         }
 
         /**
          * The fewest labels with which the pots from this one on can be labelled, if those ahead
          * bear the labels below used; known, if they would not be fewer than those known.
          */
-        private int fewestFrom(int pot, int used, int known) {
+        private static int fewestFrom(int[] rivals, int[] bearers, int pot, int used, int known) {
             if (used >= known) {
                 return known;
             }
@@ -851,7 +855,8 @@ public final class PotLabels {
             for (int label = 0; label <= used && label < POTS; label++) {
                 if ((bearers[label] & rivals[pot]) == 0) {
                     bearers[label] |= 1 << pot;
-                    fewest = fewestFrom(pot + 1, label == used ? used + 1 : used, fewest);
+                    int usedThen = label == used ? used + 1 : used;
+                    fewest = fewestFrom(rivals, bearers, pot + 1, usedThen, fewest);
                     bearers[label] &= ~(1 << pot);
                 }
             }

@@ -78,7 +78,8 @@ public final class LanguageTest {
     private static void membersOfTheClass() {
         for (Method method : PotLabels.class.getDeclaredMethods()) {
             int modifiers = method.getModifiers();
-            Check.isTrue(method + " is public or private", Modifier.isPublic(modifiers) || Modifier.isPrivate(modifiers));
+            boolean fits = Modifier.isPublic(modifiers) || Modifier.isPrivate(modifiers);
+            Check.isTrue(method + " is public or private", fits);
         }
         for (Field field : PotLabels.class.getDeclaredFields()) {
             boolean constant = field.getName().equals("NONE") && Modifier.isPublic(field.getModifiers());
@@ -147,7 +148,8 @@ public final class LanguageTest {
     /** A method starts with a line that ends with ") {" or "throws .. {", four or eight places in. */
     private static void lengths(String source) {
         String[] lines = source.split("\n");
-        Pattern head = Pattern.compile("( {4}| {8})(public|private|static|final|int|boolean|void|long|double|[A-Z]).*\\(.*\\{");
+        Pattern head = Pattern.compile("( {4}| {8})(public|private|static|final|int|boolean|void|long|double|[A-Z])"
+                + ".*\\(.*\\{");
         int methods = 0;
         for (int i = 0; i < lines.length; i++) {
             if (head.matcher(lines[i]).matches() && !lines[i].contains(" class ")) {
@@ -186,8 +188,9 @@ public final class LanguageTest {
     private static long busy(PotLabels x) {
         long sum = 0;
         for (int turn = 0; turn < 8; turn++) {
-            sum += x.mix(turn, turn % 3, 9) + x.painter(turn % 4, 1, turn) + x.borrow(turn % 4, 1) + x.label(turn, turn);
-            sum += x.hang(turn, 7 - turn) + x.correct(0, turn % 4) + x.labelAll(turn % 4) + x.keep(turn % 2);
+            sum += x.mix(turn, turn % 3, 9) + x.painter(turn % 4, 1, turn) + x.borrow(turn % 4, 1);
+            sum += x.label(turn, turn) + x.hang(turn, 7 - turn) + x.correct(0, turn % 4);
+            sum += x.labelAll(turn % 4) + x.keep(turn % 2);
             sum += x.append('0') + x.append('=') + x.append('1') + x.append('2') + x.append('3') + x.firstError();
             sum += x.load() + x.goBack(turn % 2) + x.clearBuffer() + x.fewest(0, 0) + x.fewest(0, 1) + x.undo();
             sum += x.leastChange(0, 1, 2) + x.bestPainter() + x.digest() + (long) x.apartShare() + x.count(3);

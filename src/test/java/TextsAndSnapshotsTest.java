@@ -231,7 +231,7 @@ public final class TextsAndSnapshotsTest {
             x.hang(7, 0);
             x.hang(6, 0);
             x.correct(0, 0);
-            x.painter(i % 4, 0, 0);
+            x.painter(i % 4, 0, (i + 2) % 4);
             x.painter(i % 4, 1, 2);
             x.borrow(i % 4, i % 4);
         }
