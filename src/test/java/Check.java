@@ -2,6 +2,8 @@
 final class Check {
     private static int right = 0;
     private static int wrong = 0;
+    /** What a complaint begins with: the sentence that is tried, if one is. */
+    private static String about = "";
 
     /** A call of the class, whose answer does not matter. */
     interface Call {
@@ -9,6 +11,15 @@ final class Check {
     }
 
     private Check() {
+    }
+
+    static void about(String sentence) {
+        about = sentence;
+    }
+
+    /** How many answers have been looked at. */
+    static int made() {
+        return right + wrong;
     }
 
     static void equal(String what, long want, long got) {
@@ -92,7 +103,7 @@ final class Check {
         } else {
             wrong++;
             if (wrong <= 50) {
-                System.out.println("  wrong: " + complaint);
+                System.out.println("  wrong: " + about + complaint);
             }
         }
     }
