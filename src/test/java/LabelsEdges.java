@@ -196,6 +196,7 @@ final class LabelsEdges {
                 Edge.charts(x, want[chart]);
                 Check.equal("charts", 5, x.count(2));
             }
+            takesFigureAndGroundDown();
             PotLabels x = new PotLabels();
             x.hang(0, 7);
             x.takeDown(0);
@@ -233,6 +234,20 @@ final class LabelsEdges {
                 }, x -> x.takeDown(now));
             }
         });
+    }
+
+    private static void takesFigureAndGroundDown() {
+        PotLabels x = new PotLabels();
+        x.hang(0, 1);
+        x.hang(2, 3);
+        x.hang(4, 5);
+        x.hang(6, 7);
+        x.takeDown(1);
+        Edge.charts(x, "01 45 67");
+        x.takeDown(0);
+        Edge.charts(x, "45 67");
+        x.takeDown(1);
+        Edge.charts(x, "45");
     }
 
     private static void takeDownReturns() {
@@ -388,6 +403,8 @@ final class LabelsEdges {
         Check.equal("no such colour", -1000, corrected("000", "000", 0, 27));
         Check.equal("the most from the middle", 15000, corrected("555", "555", 0, 14));
         Check.equal("no such colour from the middle", 555 - 1000, corrected("555", "555", 0, 15));
+        Check.equal("no red is more than 9", 900 - 1000, corrected("900", "099", 0, 27));
+        Check.equal("no blue is less than 0", 990 - 1000, corrected("990", "009", 0, 27));
         Check.equal("the most without blue", 18990, corrected("000", "000", 2, 17));
         Check.equal("no such colour without blue", -1000, corrected("000", "000", 2, 18));
         PotLabels x = Edge.pots("0=004");

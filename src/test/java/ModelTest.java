@@ -1,8 +1,8 @@
 /** All promises: long runs of calls, in which PotLabels and the Model must answer alike. */
 public final class ModelTest {
-    private static final int RUNS = 200;
+    private static final int RUNS = 300;
     /** A step may be several calls; an object's 512 calls are not passed. */
-    private static final int STEPS = 150;
+    private static final int STEPS = 100;
     private static final String TEXT = "01234567=;9x";
 
     private static int seed = 7;

@@ -205,6 +205,8 @@ final class WouldBeEdges {
         Check.equal("through the whole range", 15, change("555", "555", 0, 14));
         Check.equal("none", -1, change("000", "000", 0, 27));
         Check.equal("none from the middle", -1, change("555", "555", 0, 15));
+        Check.equal("no red is more than 9", -1, change("900", "099", 0, 27));
+        Check.equal("no blue is less than 0", -1, change("990", "009", 0, 27));
         Check.equal("the most of the kind 1", 27, change("000", "000", 1, 26));
         Check.equal("the most of the kind 2", 18, change("000", "000", 2, 17));
         Check.equal("none of the kind 2", -1, change("000", "000", 2, 18));
@@ -379,6 +381,14 @@ final class WouldBeEdges {
             x.painter(3, 0, 0);
         });
         state("with the share 1 / 112", "", false, false, x -> Check.pots(x, "0=030;1=001"));
+        state("with a least change of the pots 0 and 7 that no other pots have", "", false, false, x -> {
+            Check.pots(x, "0=001;7=004");
+            x.painter(0, 1, 5);
+        });
+        state("with least changes that are unlike both ways", "", false, false, x -> {
+            Check.pots(x, "0=004;7=555");
+            x.painter(0, 1, 15);
+        });
         state("with NONE as a least change", "", false, false, x -> {
             Check.pots(x, "0=555");
             x.painter(0, 1, 15);
