@@ -79,6 +79,11 @@ final class TextsEdges {
             Check.equal("nothing of before is read", 3, x.firstError());
             Check.throwing("load", Edge.WRONG, () -> x.load());
             Check.equal("no state is saved", 0, x.count(7));
+            PotLabels longer = typed(Edge.TEN_POTS);
+            longer.clearBuffer();
+            Check.type(longer, "1=999");
+            longer.load();
+            Edge.colours(longer, "000 999 000 000 000 000 000 000");
             Edge.changesNothing("clearBuffer of nothing", y -> y.keep(0), y -> y.clearBuffer());
         });
         Sentences.test(11, "Returns the length that it had", () -> {
@@ -204,6 +209,10 @@ final class TextsEdges {
         x.load();
         Edge.colours(x, "129 345 003 004 005 006 007 008");
         Edge.labels(x, "7--0----");
+        Check.pots(x, "0=000;1=000;2=000;3=000;4=000;5=000;6=000;7=000");
+        Check.type(x, "2=456");
+        x.load();
+        Edge.colours(x, "000 000 456 000 000 000 000 000");
         for (int pot = 0; pot < 8; pot++) {
             PotLabels one = typed(pot + "=909");
             one.load();

@@ -367,6 +367,21 @@ final class WouldBeEdges {
         Check.equal("the digest " + name, WhatWouldBeTest.digestByCalls(x, first, second, buffer), x.digest());
     }
 
+    /** Colours of which hardly two pairs are as far apart: so many numbers of pairs are told. */
+    private static void sharesOfManyPairs() {
+        Set<Double> shares = new TreeSet<>();
+        for (int sharpness = 0; sharpness <= 27; sharpness++) {
+            PotLabels x = Edge.pots("0=000;1=100;2=400;3=910;4=990;5=995;6=997;7=999");
+            for (int painter = 0; painter < 4; painter++) {
+                x.painter(painter, 1, painter == 0 ? sharpness : 27);
+            }
+            shares.add(x.apartShare());
+            Check.equal("the digest with the sharpness " + sharpness,
+                    WhatWouldBeTest.digestByCalls(x, false, false, ""), x.digest());
+        }
+        Check.isTrue("many shares are tried, " + shares, shares.size() >= 18 && shares.contains(15.0 / 112));
+    }
+
     private static void digestOfStates() {
         state("of a new object", "", false, false, x -> { });
         state("of a busy one", "3=12", true, true, Edge::busy);
@@ -389,6 +404,7 @@ final class WouldBeEdges {
             Check.pots(x, "0=004;7=555");
             x.painter(0, 1, 15);
         });
+        sharesOfManyPairs();
         state("with NONE as a least change", "", false, false, x -> {
             Check.pots(x, "0=555");
             x.painter(0, 1, 15);
