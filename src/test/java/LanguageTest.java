@@ -15,7 +15,7 @@ import java.util.regex.Pattern;
 
 /**
  * The rules of LANGUAGE.md that can be looked up: the face, names, words, lengths and the room
- * that calls take. Its argument is the path of PotLabels.java.
+ * that calls take. Its arguments are the paths of PotLabels.java and of the document.
  */
 public final class LanguageTest {
     private static final String[] FACE = {
@@ -34,6 +34,7 @@ public final class LanguageTest {
         membersOfTheClass();
         classesInside();
         String source = Files.readString(Path.of(args[0]), StandardCharsets.ISO_8859_1);
+        linesOfTheFace(source, Files.readString(Path.of(args[1]), StandardCharsets.UTF_8));
         signs(source);
         words(withoutComments(source));
         lengths(source);
@@ -73,6 +74,20 @@ public final class LanguageTest {
         Check.equal("constructors", 1, constructors.length);
         Check.equal("its parameters", 0, constructors[0].getParameterCount());
         Check.isTrue("it is public", Modifier.isPublic(constructors[0].getModifiers()));
+    }
+
+    /** Each line of the face stands in the class as it stands in the document. */
+    private static void linesOfTheFace(String source, String document) {
+        int lines = 0;
+        for (String line : document.split("\n")) {
+            if (line.startsWith("    public ")) {
+                lines++;
+                String bare = line.substring(0, line.length() - 1);
+                boolean stands = source.contains("\n" + bare + ";\n") || source.contains("\n" + bare + " {\n");
+                Check.isTrue("the class has no line" + line, line.endsWith(";") && stands);
+            }
+        }
+        Check.equal("lines of the face", FACE.length + 2, lines);
     }
 
     private static void membersOfTheClass() {
